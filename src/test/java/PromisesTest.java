@@ -18,6 +18,7 @@ public final class PromisesTest {
         feedAndEnd();
         grammarReplaces();
         tokens();
+        cutTexts();
         grammarShape();
         grammarNames();
         grammarLimits();
@@ -33,7 +34,10 @@ public final class PromisesTest {
         ruleAnswers();
         testAnswers();
         tooLarge();
+        choiceLimit();
         unproductive();
+        fullGrammar();
+        leftOvers();
         nodeAnswers();
         ownAnswers();
         demandAnswers();
@@ -42,6 +46,7 @@ public final class PromisesTest {
         badValues();
         orderAnswers();
         deepestTree();
+        fullTree();
         aboutAnswers();
         System.out.println(wrong == 0 ? "all promises are kept" : wrong + " answers are wrong");
         if (wrong != 0) {
@@ -236,6 +241,30 @@ public final class PromisesTest {
         }
     }
 
+    /** What once stood behind the end of the tape is no part of it. */
+    private static void cutTexts() {
+        AttributeDesk desk = new AttributeDesk();
+        cut(desk, "sym S syn v;rule a=S:0.v=1|.v;end", 1, 26);
+        cut(desk, "sym S;rule a=S:en|d", 1, 15);
+        cut(desk, "sym S|;rule a=S:end", 1, 5);
+        Tape.put(desk, "sym S;rule a=S:endend");
+        desk.end(18);
+        due("a cut grammar", desk.grammar(), 1);
+        Tape.put(desk, "(a 21474836478)");
+        desk.end(13);
+        due("a cut tree", desk.tree(), NONE);
+        due("its FAULT", desk.fault(0), 1);
+        due("its place", desk.fault(1), 13);
+    }
+
+    private static void cut(AttributeDesk desk, String text, int fault, int place) {
+        Tape.put(desk, text.replace("|", ""));
+        desk.end(text.indexOf('|'));
+        due("cut " + text, desk.grammar(), NONE);
+        due("FAULT of cut " + text, desk.fault(0), fault);
+        due("place of cut " + text, desk.fault(1), place);
+    }
+
     // I. GRAMMARS: FAULT 1
     private static void grammarShape() {
         fault("", 1, 0);
@@ -381,6 +410,12 @@ public final class PromisesTest {
         faultIn("-1" + times("+1", 19) + "|own", 1);
         faultIn("-1" + times("+1", 19) + "|)", 1);
         faultIn("(1" + times("+1", 19) + "|)", 4);
+        faultIn("-1" + times("+1", 19) + "|<1", 4);
+        faultIn("-1" + times("+1", 19) + "|*1", 4);
+        faultIn("-1" + times("+1", 19) + "|then", 1);
+        faultIn("if 1" + times("+1", 19) + "|then", 4);
+        faultIn("if 1 then 1" + times("+1", 18) + "|else", 4);
+        faultIn("if 1 then 1" + times("+1", 17) + " else|", 1);
         // The TOKENS of OCCS count: the 39th to 41st, and the 40th to 42nd.
         faultIn("1" + times("+1", 18) + "+0.|w", 4);
         faultIn("1" + times("+1", 18) + "+0.|x", 3);
@@ -393,6 +428,7 @@ public final class PromisesTest {
         fineIn("-1" + times("+1", 17) + "+0.w");
         faultIn("|2147483648", 5);
         faultIn("-|2147483648", 5);
+        faultIn("|21474836470", 5);
         faultIn("1 + |99999999999999999999999999999999999999", 5);
         // What is open around one another.
         fineIn(times("-", 20) + "1");
@@ -515,30 +551,15 @@ public final class PromisesTest {
         due("the deepest", desk.node(39, 1), 38);
         treeFault(grammar, times("(c", 40) + "|(l", 4);
         treeFault(grammar, times("(c", 39) + "(l|(l", 1);
-        // Each n but the last stands in another: 66 of them, 33 beside 33, have 133 leaves.
-        String wide = "";
-        for (int i = 0; i < 33; i++) {
-            wide = "(n(l)(l)" + (wide.isEmpty() ? "(l)" : wide) + ")";
-        }
-        String most = "(c(n" + wide + wide.replaceFirst("\\(l\\)$", "") + "(l)))";
-        due("203 NODES", Tape.tree(desk, most), NONE);
-        due("FAULT", desk.fault(0), 4);
-        due("place", desk.fault(1), placeOfNode(most, 200));
-        String fewer = "(n" + wide + wide.replaceFirst("\\(n\\(l\\)\\(l\\)\\(l\\)\\)", "(l)") + "(c(l)))";
-        due("200 NODES", Tape.tree(desk, fewer), 200);
+        // 1 + 100 + 97 + 2 NODES, and one more.
+        due("200 NODES", Tape.tree(desk, "(n" + nest(33) + nest(32) + "(c(l)))"), 200);
         due("the last one", desk.node(199, 0), 1);
         due("stands in", desk.node(199, 1), 198);
         due("no 201st", desk.node(200, 0), NONE);
-        String more = fewer.replace("(c(l)))", "(c(c(l))))");
-        treeFault(grammar, new StringBuilder(more).insert(placeOfNode(more, 200), '|').toString(), 4);
-    }
-
-    private static int placeOfNode(String text, int node) {
-        int place = -1;
-        for (int i = 0; i <= node; i++) {
-            place = text.indexOf('(', place + 1);
-        }
-        return place;
+        due("201 NODES", Tape.tree(desk, "(n" + nest(33) + nest(32) + "(c(c(l))))"), NONE);
+        treeFault(grammar, "(n" + nest(33) + nest(32) + "(c(c|(l))))", 4);
+        treeFault(grammar, "(n" + nest(33) + times("(n(l 1)(l 1)", 33) + "|(l 1)", 4);
+        treeFault(grammar, "(n" + nest(33) + nest(32) + "(c(l)|(l)))", 1);
     }
 
     // Promise 6
@@ -753,6 +774,114 @@ public final class PromisesTest {
         due("a fine grammar behind it", Tape.grammar(desk, SUM), 3);
         due("GRAPHS", desk.symbol(1, 2), 1);
         due("EXACT", desk.test(0), 1);
+    }
+
+    private static int leafCount = 0;
+
+    /** A RULE whose HEAD has the graph, by what stands in it alone or behind that of its CHILD, the same symbol. */
+    private static String ruleOfGraph(String symbol, int graph, boolean hasChild) {
+        StringBuilder text = new StringBuilder("rule n").append(letter(leafCount / 8)).append(letter(leafCount % 8));
+        leafCount++;
+        text.append('=').append(symbol).append(hasChild ? " " + symbol : "").append(':');
+        for (int s = 0; s < 2; s++) {
+            String name = s == 0 ? "s" : "t";
+            text.append("0.").append(name).append('=').append(hasChild ? "1." + name : "1");
+            for (int i = 0; i < 3; i++) {
+                text.append((graph >> (i * 2 + s) & 1) != 0 ? "+0." + letter(i) : "");
+            }
+            text.append(';');
+        }
+        return text.append(hasChild ? "1.a=0.a;1.b=0.b;1.c=0.c;" : "").append("end ").toString();
+    }
+
+    /** RULES of so many GRAPHS: four of each leaf by the two that add, but fewer of those that have some already. */
+    private static String rulesOfGraphs(String symbol, int leaves, int... more) {
+        StringBuilder text = new StringBuilder();
+        for (int graph = 0; graph < leaves; graph++) {
+            text.append(ruleOfGraph(symbol, graph, false));
+        }
+        for (int graph : more) {
+            text.append(ruleOfGraph(symbol, graph, false));
+        }
+        return text.append(ruleOfGraph(symbol, 16, true)).append(ruleOfGraph(symbol, 32, true)).toString();
+    }
+
+    private static void choiceLimit() {
+        String all = "";
+        for (String symbol : new String[] {"X", "Y", "Z"}) {
+            all += "sym " + symbol + " inh a inh b inh c syn s syn t;";
+        }
+        String start = "sym S syn v;" + all + "rule r=S X Y Z:0.v=1;";
+        for (int k = 1; k <= 3; k++) {
+            start += k + ".a=1;" + k + ".b=1;" + k + ".c=1;";
+        }
+        leafCount = 0;
+        String two = start + "end " + rulesOfGraphs("X", 6, 48 + 6) + rulesOfGraphs("Y", 5) + rulesOfGraphs("Z", 1);
+        AttributeDesk desk = new AttributeDesk();
+        due("grammar", Tape.grammar(desk, two), 1 + 9 + 7 + 3);
+        due("X's GRAPHS", desk.symbol(1, 2), 25);
+        due("Y's GRAPHS", desk.symbol(2, 2), 20);
+        due("Z's GRAPHS", desk.symbol(3, 2), 4);
+        due("2,000 are not above 2,000", desk.test(0), 1);
+        leafCount = 0;
+        // 28 + 1, 20 + 2 + 1 and 3.
+        String three = start + "end " + rulesOfGraphs("X", 7, 48 + 7) + rulesOfGraphs("Y", 5, 16 + 5, 48 + 6)
+                + ruleOfGraph("Z", 0, false) + ruleOfGraph("Z", 1, false) + ruleOfGraph("Z", 2, false);
+        due("grammar", Tape.grammar(desk, three), 1 + 10 + 9 + 3);
+        due("2,001 are", desk.test(0), -2);
+        due("2,001 are", desk.symbol(3, 2), -2);
+    }
+
+    private static void fullGrammar() {
+        StringBuilder text = new StringBuilder("sym a syn a syn b syn c syn d syn e syn f;");
+        for (int s = 1; s < 12; s++) {
+            text.append("sym ").append(letter(s)).append(" inh a inh b inh c syn d syn e syn f;");
+        }
+        String own = "0.a=1;0.b=1;0.c=1;0.d=1;0.e=1;0.f=own;";
+        text.append("rule r=a l l l:0.a=1.d+2.e+3.f;0.b=1;0.c=1;0.d=1;0.e=1;0.f=own;");
+        text.append("1.a=1;1.b=1;1.c=1;2.a=1;2.b=2;2.c=3;3.a=1;3.b=1;3.c=1;end ");
+        text.append("rule leaf=l:0.d=0.a+0.b+0.c;0.e=0.a+0.b+0.c;0.f=0.a+0.b+0.c;end ");
+        for (int r = 2; r < 30; r++) {
+            text.append("rule r").append(letter(r / 8)).append(letter(r % 8)).append("=a:").append(own).append("end ");
+        }
+        AttributeDesk desk = new AttributeDesk();
+        due("grammar", Tape.grammar(desk, text.toString().replace("+ ", "+")), 30);
+        due("EXACT", desk.test(0), 1);
+        due("PLAIN", desk.test(1), 1);
+        due("all bits", desk.graph(11, 0), 511);
+        due("all bits", desk.symbol(11, 3), 511);
+        for (int what = -1; what < 110; what++) {
+            due("symbol 12", desk.symbol(12, what), NONE);
+            due("rule 30", desk.rule(30, what), NONE);
+        }
+        due("graph 12", desk.graph(12, 0), NONE);
+        due("last RULE", desk.rule(29, 2), 6);
+        due("tree", Tape.tree(desk, "(r(leaf)(leaf)(leaf))"), 4);
+        due("demand", desk.demand(0, 0), 0);
+        due("value", desk.value(0, 0, 1), 3 + 6 + 3);
+    }
+
+    /** A small grammar behind a large one has nothing of it. */
+    private static void leftOvers() {
+        AttributeDesk desk = new AttributeDesk();
+        Tape.grammar(desk, "sym S syn v; sym X inh i syn s; rule a = S : 0.v = 1; end "
+                + "rule b = S X : 0.v = 1; 1.i = 1.s; end rule c = X : 0.s = 0.i; end");
+        due("EXACT", desk.test(0), 0);
+        due("PLAIN", desk.test(1), 0);
+        due("GRAPHS", desk.graph(1, 0), 1);
+        Tape.grammar(desk, "sym S syn v; sym X; rule a = S : 0.v = 1; end");
+        due("EXACT", desk.test(0), 1);
+        due("PLAIN", desk.test(1), 1);
+        due("no GRAPHS", desk.symbol(1, 2), 0);
+        due("no plain", desk.symbol(1, 3), 0);
+        due("no second RULE", desk.rule(1, 4), NONE);
+        Tape.grammar(desk, "sym S syn v; sym X inh i syn s; rule a = S : 0.v = 1; end "
+                + "rule b = S X : 0.v = 1; 1.i = 1.s; end rule c = X : 0.s = 2; end");
+        due("EXACT", desk.test(0), 1);
+        due("PLAIN", desk.test(1), 1);
+        due("GRAPHS", desk.graph(1, 0), 0);
+        due("one of them", desk.symbol(1, 2), 1);
+        due("no plain", desk.symbol(1, 3), 0);
     }
 
     private static void unproductive() {
@@ -1025,6 +1154,44 @@ public final class PromisesTest {
         due("value", desk.value(0, 0, 1), 1 + 38 * 6);
         due("the first", desk.order(0), 6);
         due("the last", desk.order(39 * 6), 0);
+    }
+
+    /** So many n around one another, each with two leaves, and a leaf in the innermost: 3 times so many NODES and 1. */
+    private static String nest(int count) {
+        return times("(n(l 1)(l 1)", count) + "(l 1)" + times(")", count);
+    }
+
+    /** 200 NODES of six attributes. */
+    private static void fullTree() {
+        StringBuilder text = new StringBuilder("sym S syn a syn b syn c syn d syn e syn f;");
+        String[] rules = {"n=S S S S:", "c=S S:", "l=S:"};
+        for (int r = 0; r < 3; r++) {
+            text.append("rule ").append(rules[r]);
+            for (int a = 0; a < 6; a++) {
+                text.append("0.").append(letter(a)).append("=own");
+                for (int k = 1; k <= new int[] {3, 1, 0}[r]; k++) {
+                    text.append('+').append(k).append('.').append(letter(a));
+                }
+                text.append(';');
+            }
+            text.append("end ");
+        }
+        // 1 + 100 + 97 + 2 NODES.
+        String tree = "(n" + nest(33) + nest(32) + "(c(l)))";
+        AttributeDesk desk = deskOf(text.toString(), tree);
+        due("all NODES", desk.about(3), 200);
+        for (int a = 0; a < 6; a++) {
+            due("demand " + a, desk.demand(0, a), 0);
+        }
+        due("all are worked out", desk.about(4), 1200);
+        due("the last", desk.order(1199), 5);
+        due("none behind", desk.order(1200), NONE);
+        due("the sum", desk.value(0, 5, 1), 67 + 65);
+        due("own", desk.own(199, 77), true);
+        due("all are forgotten", desk.about(4), 0);
+        due("no number", desk.value(199, 5, 0), NONE);
+        due("again", desk.demand(199, 5), 0);
+        due("its number", desk.value(199, 5, 1), 77);
     }
 
     // Promise 16
