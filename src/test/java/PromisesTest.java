@@ -1,6 +1,5 @@
 /** What the document promises, promise by promise: ordinary inputs, its edges and wrong inputs. */
-public final class PromisesTest {
-    private static final int NONE = AttributeDesk.NONE;
+public final class PromisesTest extends Checks {
     private static final String SUM = "sym S syn v; sym L inh p syn v; "
             + "rule top = S L : 0.v = 1.v; 1.p = 0; end "
             + "rule one = L : 0.v = 0.p + own; end "
@@ -8,10 +7,6 @@ public final class PromisesTest {
     private static final String KNUTH = "sym S syn v; sym X inh a inh b syn c syn d; "
             + "rule t = S X : 0.v = 1.c + 1.d; 1.a = 1.d; 1.b = 1.c; end "
             + "rule p = X : 0.c = 0.a; 0.d = 1; end rule q = X : 0.c = 2; 0.d = 0.b; end";
-    private static final int MOST = Integer.MAX_VALUE;
-    private static final int LEAST = Integer.MIN_VALUE;
-
-    private static int wrong = 0;
 
     public static void main(String[] args) {
         newObject();
@@ -52,81 +47,6 @@ public final class PromisesTest {
         if (wrong != 0) {
             System.exit(1);
         }
-    }
-
-    private static void due(String what, long got, long want) {
-        if (got != want) {
-            wrong++;
-            System.out.println(what + ": answered " + got + ", due is " + want);
-        }
-    }
-
-    private static void due(String what, boolean got, boolean want) {
-        due(what, got ? 1 : 0, want ? 1 : 0);
-    }
-
-    /** The grammar has the FAULT at the place, on a new object and behind another grammar. */
-    private static void fault(String text, int fault, int place) {
-        AttributeDesk desk = new AttributeDesk();
-        due("grammar " + text, Tape.grammar(desk, text), NONE);
-        due("FAULT of " + text, desk.fault(0), fault);
-        due("place of " + text, desk.fault(1), place);
-        due("RULES behind " + text, desk.about(2), 0);
-    }
-
-    /** The grammar has the FAULT where the | stands in the text. */
-    private static void faultAt(String text, int fault) {
-        fault(text.replace("|", ""), fault, text.indexOf('|'));
-    }
-
-    private static void fine(String text, int rules) {
-        AttributeDesk desk = new AttributeDesk();
-        due("grammar " + text, Tape.grammar(desk, text), rules);
-        due("FAULT of " + text, desk.fault(0), 0);
-        due("place of " + text, desk.fault(1), NONE);
-    }
-
-    /** An E of a RULE whose HEAD has a synthesized v and w and whose CHILD has an inherited i and a synthesized s. */
-    private static String around(String e) {
-        return "sym S syn v syn w; sym X inh i syn s; rule x = X : 0.s = 0.i; end "
-                + "rule a = S X : 0.w = 1.s; 1.i = 7; 0.v = " + e + "; end";
-    }
-
-    private static void faultIn(String e, int fault) {
-        faultAt(around(e), fault);
-    }
-
-    private static void fineIn(String e) {
-        fine(around(e), 2);
-    }
-
-    /** What 0.v comes to; own is 5, 0.w and 1.s and 1.i are 7. */
-    private static void comesTo(String e, int outcome, int number) {
-        AttributeDesk desk = new AttributeDesk();
-        due("grammar with " + e, Tape.grammar(desk, around(e)), 2);
-        due("tree with " + e, Tape.tree(desk, "(a 5 (x 11))"), 2);
-        due("outcome of " + e, desk.demand(0, 0), outcome);
-        due("kind of " + e, desk.value(0, 0, 0), outcome);
-        due("number of " + e, desk.value(0, 0, 1), number);
-    }
-
-    private static AttributeDesk deskOf(String grammar, String tree) {
-        AttributeDesk desk = new AttributeDesk();
-        due("grammar " + grammar, Tape.grammar(desk, grammar) > 0, true);
-        due("tree " + tree, Tape.tree(desk, tree) > 0, true);
-        return desk;
-    }
-
-    private static String times(String part, int count) {
-        StringBuilder all = new StringBuilder();
-        for (int i = 0; i < count; i++) {
-            all.append(part);
-        }
-        return all.toString();
-    }
-
-    private static String letter(int i) {
-        return String.valueOf((char) ('a' + i));
     }
 
     // Promise 1
@@ -498,16 +418,6 @@ public final class PromisesTest {
         due("none worked out", desk.about(4), 0);
     }
 
-    /** The TREE has the FAULT where the | stands in the text. */
-    private static void treeFault(String grammar, String text, int fault) {
-        AttributeDesk desk = new AttributeDesk();
-        due("grammar", Tape.grammar(desk, grammar) > 0, true);
-        due("tree " + text, Tape.tree(desk, text.replace("|", "")), NONE);
-        due("FAULT of tree " + text, desk.fault(0), fault);
-        due("place of tree " + text, desk.fault(1), text.indexOf('|'));
-        due("no NODES", desk.about(3), 0);
-    }
-
     private static void treeFaults() {
         treeFault(SUM, "|", 1);
         treeFault(SUM, "  |", 1);
@@ -552,14 +462,14 @@ public final class PromisesTest {
         treeFault(grammar, times("(c", 40) + "|(l", 4);
         treeFault(grammar, times("(c", 39) + "(l|(l", 1);
         // 1 + 100 + 97 + 2 NODES, and one more.
-        due("200 NODES", Tape.tree(desk, "(n" + nest(33) + nest(32) + "(c(l)))"), 200);
+        due("200 NODES", Tape.tree(desk, "(n" + nestOfOnes(33) + nestOfOnes(32) + "(c(l)))"), 200);
         due("the last one", desk.node(199, 0), 1);
         due("stands in", desk.node(199, 1), 198);
         due("no 201st", desk.node(200, 0), NONE);
-        due("201 NODES", Tape.tree(desk, "(n" + nest(33) + nest(32) + "(c(c(l))))"), NONE);
-        treeFault(grammar, "(n" + nest(33) + nest(32) + "(c(c|(l))))", 4);
-        treeFault(grammar, "(n" + nest(33) + times("(n(l 1)(l 1)", 33) + "|(l 1)", 4);
-        treeFault(grammar, "(n" + nest(33) + nest(32) + "(c(l)|(l)))", 1);
+        due("201 NODES", Tape.tree(desk, "(n" + nestOfOnes(33) + nestOfOnes(32) + "(c(c(l))))"), NONE);
+        treeFault(grammar, "(n" + nestOfOnes(33) + nestOfOnes(32) + "(c(c|(l))))", 4);
+        treeFault(grammar, "(n" + nestOfOnes(33) + times("(n(l 1)(l 1)", 33) + "|(l 1)", 4);
+        treeFault(grammar, "(n" + nestOfOnes(33) + nestOfOnes(32) + "(c(l)|(l)))", 1);
     }
 
     // Promise 6
@@ -1156,9 +1066,9 @@ public final class PromisesTest {
         due("the last", desk.order(39 * 6), 0);
     }
 
-    /** So many n around one another, each with two leaves, and a leaf in the innermost: 3 times so many NODES and 1. */
-    private static String nest(int count) {
-        return times("(n(l 1)(l 1)", count) + "(l 1)" + times(")", count);
+    /** The NODES of nest(), of which each leaf has the OWN 1. */
+    private static String nestOfOnes(int count) {
+        return nest(count).replace("(l)", "(l 1)");
     }
 
     /** 200 NODES of six attributes. */
@@ -1177,7 +1087,7 @@ public final class PromisesTest {
             text.append("end ");
         }
         // 1 + 100 + 97 + 2 NODES.
-        String tree = "(n" + nest(33) + nest(32) + "(c(l)))";
+        String tree = "(n" + nestOfOnes(33) + nestOfOnes(32) + "(c(l)))";
         AttributeDesk desk = deskOf(text.toString(), tree);
         due("all NODES", desk.about(3), 200);
         for (int a = 0; a < 6; a++) {
