@@ -307,6 +307,14 @@ final class CallSentences extends Checks {
             due("no GRAPH", desk.graph(2, 0), NONE);
             due("no second attribute", desk.symbol(0, 101), NONE);
         }
+        String[] signs = {"-", "-", "", "", "1+", "1+", ""};
+        int[] numbers = {-4, -4, 4, 4, 5, 5, 4};
+        for (int i = 0; i < signs.length; i++) {
+            due("another E", Tape.grammar(desk, "sym S syn v;rule a=S:0.v=" + signs[i] + "own;end"), 1);
+            due("TREE", Tape.tree(desk, "(a 4)"), 1);
+            due("demand", desk.demand(0, 0), 0);
+            due("by this E alone", desk.value(0, 0, 1), numbers[i]);
+        }
     }
 
     private static void grammarFault() {

@@ -99,6 +99,12 @@ final class DemandSentences extends Checks {
         comesTo("(- 7) % 2", 0, -1);
         comesTo("7 % - 2", 0, 1);
         comesTo("(- 7) % - 2", 0, -1);
+        for (int by : new int[] {1, 2, 3, MOST}) {
+            comesTo("2147483647 / " + by, 0, MOST / by);
+            comesTo("2147483647 / - " + by, 0, MOST / -by);
+            comesTo("2147483647 % " + by, 0, MOST % by);
+            comesTo("2147483647 % - " + by, 0, MOST % -by);
+        }
         comesTo("0 / 5", 0, 0);
         comesTo("0 % 5", 0, 0);
         AttributeDesk desk = deskOf("sym S syn v syn w;rule a=S:0.v=own-1;0.w=0.v+1;end", "(a)");
