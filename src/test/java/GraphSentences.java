@@ -293,7 +293,8 @@ final class GraphSentences extends Checks {
     }
 
     private static String wideRule(String symbol, int number, int graph, boolean hasChild) {
-        return nineRule(symbol + letter(number), graph, hasChild).replaceAll("=X", "=" + symbol).replace(" X:", " " + symbol + ":");
+        String rule = nineRule(symbol + letter(number), graph, hasChild);
+        return rule.replace("=X", "=" + symbol).replace(" X:", " " + symbol + ":");
     }
 
     /** The first RULE is one of S with these CHILDREN; X, Y and Z have three inherited and three synthesized attributes. */

@@ -36,13 +36,13 @@ final class TreeSentences extends Checks {
         fineTree("(" + times(" ", 1499) + "l" + times("\n", 1498) + ")", 1);
         treeFault("(l)" + times(" ", 2996) + "|x", 1);
         treeFault("(l" + times(" ", 2998) + "|", 1);
-        fineTree("( \n l 0\n1 )".replace("0\n1", "01"), 1);
+        fineTree("( \n l 01 )", 1);
         fineTree("\n(\nm\n1(\nx\n)\n(\nl\n)\n)\n", 3);
         fineTree("(m 1(x)(l))", 3);
         fineTree("(c(l 2)  )", 2);
         treeFault("(|ll)", 3);
         treeFault("(l |l)", 1);
-        treeFault("(c|c(l))".replace("|c(", "|,("), 1);
+        treeFault("(c|,(l))", 1);
         for (char sign : "{}[]!,?\t\r_;:=.<+-*/%".toCharArray()) {
             treeFault("(l|" + sign + ")", 1);
             treeFault("(|" + sign + "l)", 1);
