@@ -5,6 +5,8 @@ import java.util.Random;
 /** Runs of calls that come of fixed seeds, each answer held against that of DeskModel. */
 public final class ModelTest {
     private static final int RUNS = 12000;
+    /** What an object answers behind so many calls is free. */
+    private static final int CALLS = 512;
     private static final String[] SIGNS = {"+", "-", "*", "/", "%", "<", "="};
     private static final String[] SCRAPS = {"sym", "inh", "syn", "rule", "end", "own", "if", "then", "else", "a", "b",
         "S", "X", "abcdefghi", "0", "1", "2", "3", "4", "2147483647", "2147483648", ";", ":", "=", ".", "(", ")", "<",
@@ -70,27 +72,30 @@ public final class ModelTest {
     private void go() {
         boolean large = chance(3);
         boolean wide = chance(4);
-        for (int round = 0; round < 3 && !isWrong && callCount < 200; round++) {
+        for (int round = 0; round < 3 && !isWrong; round++) {
             String text = wide ? wideText() : grammarText(large);
             if (chance(wide ? 5 : 50)) {
                 text = spoil(text);
             }
-            if (text.length() > 3000) {
+            if (text.length() > 3000 || !put(text)) {
                 continue;
             }
-            put(text);
             int rules = check("grammar()", desk.grammar(), model.grammar());
             faults(grammarFaults);
             if (rules > 0) {
                 lookAtGrammar();
             }
-            for (int i = 0; i < 4 && !isWrong && callCount < 350; i++) {
+            for (int i = 0; i < 4 && !isWrong; i++) {
                 lookAtTree();
             }
-            for (int i = 0; i < 5; i++) {
+            for (int i = 0; i < 3; i++) {
                 wildCall(wild(), wild(), wild());
             }
         }
+    }
+
+    private int callsLeft() {
+        return CALLS - callCount;
     }
 
     private void lookAtTree() {
@@ -101,13 +106,15 @@ public final class ModelTest {
         if (text.length() > 1500) {
             text = text.substring(0, 1500);
         }
-        put(text);
+        if (!put(text)) {
+            return;
+        }
         int nodes = check("tree()", desk.tree(), model.tree());
         if (nodes != -2) {
             faults(treeFaults);
         }
         int known = model.about(3);
-        for (int i = 0; i < 12 && !isWrong; i++) {
+        for (int i = 0; i < 12 && !isWrong && callsLeft() > 0; i++) {
             int n = random.nextInt(known + 2) - (chance(5) ? 1 : 0);
             int a = random.nextInt(7) - (chance(5) ? 1 : 0);
             switch (random.nextInt(8)) {
@@ -116,12 +123,10 @@ public final class ModelTest {
                     check("own(" + n + ", " + v + ")", desk.own(n, v) ? 1 : 0, model.own(n, v) ? 1 : 0);
                     break;
                 case 1:
-                    int what = random.nextInt(7) - 1;
-                    check("node(" + n + ", " + what + ")", desk.node(n, what), model.node(n, what));
+                    askNode(n, random.nextInt(7) - 1);
                     break;
                 case 2:
-                    int which = random.nextInt(4) - 1;
-                    check("value(" + n + ", " + a + ", " + which + ")", desk.value(n, a, which), model.value(n, a, which));
+                    askValue(n, a, random.nextInt(4) - 1);
                     break;
                 default:
                     demand(n, a);
@@ -142,55 +147,96 @@ public final class ModelTest {
     }
 
     private void lookAtValues(int known) {
-        about();
-        for (int i = 0; i < 12 && callCount < 500; i++) {
-            int at = i == 0 ? model.about(4) : random.nextInt(model.about(4) + 2) - 1;
-            check("order(" + at + ")", desk.order(at), model.order(at));
-            int n = random.nextInt(known + 1);
-            int a = random.nextInt(6);
-            check("value(" + n + ", " + a + ", 0)", desk.value(n, a, 0), model.value(n, a, 0));
-            check("value(" + n + ", " + a + ", 1)", desk.value(n, a, 1), model.value(n, a, 1));
+        askAbout(random.nextInt(7) - 1);
+        askAbout(4);
+        int worked = model.about(4);
+        for (int i = 0; i < 12; i++) {
+            askOrder(worked <= 12 ? i : random.nextInt(worked + 2) - 1);
         }
-        // What isn't counted as a call of the run: all that can be seen.
-        for (int i = -1; i <= model.about(4); i++) {
-            same("order(" + i + ")", desk.order(i), model.order(i));
-        }
-        for (int n = -1; n <= known; n++) {
-            for (int what = -1; what < 6; what++) {
-                same("node(" + n + ", " + what + ")", desk.node(n, what), model.node(n, what));
-            }
-            for (int a = -1; a < 7; a++) {
-                for (int what = -1; what < 3; what++) {
-                    same("value(" + n + ", " + a + ", " + what + ")", desk.value(n, a, what), model.value(n, a, what));
-                }
-            }
+        for (int i = 0; i < 8; i++) {
+            int item = worked > 0 && chance(50) ? model.order(random.nextInt(worked)) : random.nextInt(6 * known + 6);
+            askValue(item / 6, item % 6, 0);
+            askValue(item / 6, item % 6, 1);
+            askNode(random.nextInt(known + 2) - 1, random.nextInt(7) - 1);
         }
     }
 
     private void lookAtGrammar() {
-        about();
+        askAbout(1);
+        askAbout(2);
+        askAbout(3);
         for (int what = -1; what < 3; what++) {
-            check("test(" + what + ")", desk.test(what), model.test(what));
+            askTest(what);
         }
         exact[model.test(0) + 2]++;
         if (model.test(0) == 1 && model.test(1) == 0) {
             exactButNotPlain++;
         }
-        for (int s = -1; s <= model.about(1); s++) {
-            for (int what = -1; what < 5; what++) {
-                same("symbol(" + s + ", " + what + ")", desk.symbol(s, what), model.symbol(s, what));
-            }
-            for (int what = 98; what < 108; what++) {
-                same("symbol(" + s + ", " + what + ")", desk.symbol(s, what), model.symbol(s, what));
-            }
-            for (int i = -1; i <= Math.max(0, model.symbol(s, 2)); i++) {
-                same("graph(" + s + ", " + i + ")", desk.graph(s, i), model.graph(s, i));
-            }
+        int symbols = model.about(1);
+        int rules = model.about(2);
+        for (int s = 0; s < symbols; s++) {
+            askSymbol(s, 2);
+            askSymbol(s, 3);
+            askGraph(s, random.nextInt(Math.max(0, model.symbol(s, 2)) + 2) - 1);
         }
-        for (int r = -1; r <= model.about(2); r++) {
-            for (int what = -1; what < 16; what++) {
-                same("rule(" + r + ", " + what + ")", desk.rule(r, what), model.rule(r, what));
-            }
+        for (int r = 0; r < rules; r++) {
+            askRule(r, 3 + random.nextInt(3));
+        }
+        for (int i = 0; i < 20; i++) {
+            int s = random.nextInt(symbols + 2) - 1;
+            askSymbol(s, chance(50) ? random.nextInt(6) - 1 : 98 + random.nextInt(10));
+            askGraph(s, random.nextInt(Math.max(0, model.symbol(s, 2)) + 2) - 1);
+            askRule(random.nextInt(rules + 2) - 1, random.nextInt(17) - 1);
+        }
+    }
+
+    // What is asked, as long as there are calls left for it.
+
+    private void askAbout(int what) {
+        if (callsLeft() > 0) {
+            check("about(" + what + ")", desk.about(what), model.about(what));
+        }
+    }
+
+    private void askTest(int what) {
+        if (callsLeft() > 0) {
+            check("test(" + what + ")", desk.test(what), model.test(what));
+        }
+    }
+
+    private void askSymbol(int s, int what) {
+        if (callsLeft() > 0) {
+            check("symbol(" + s + ", " + what + ")", desk.symbol(s, what), model.symbol(s, what));
+        }
+    }
+
+    private void askGraph(int s, int i) {
+        if (callsLeft() > 0) {
+            check("graph(" + s + ", " + i + ")", desk.graph(s, i), model.graph(s, i));
+        }
+    }
+
+    private void askRule(int r, int what) {
+        if (callsLeft() > 0) {
+            check("rule(" + r + ", " + what + ")", desk.rule(r, what), model.rule(r, what));
+        }
+    }
+
+    private void askNode(int n, int what) {
+        if (callsLeft() > 0) {
+            check("node(" + n + ", " + what + ")", desk.node(n, what), model.node(n, what));
+        }
+    }
+
+    private void askValue(int n, int a, int what) {
+        if (callsLeft() > 0) {
+            check("value(" + n + ", " + a + ", " + what + ")", desk.value(n, a, what), model.value(n, a, what));
+        }
+    }
+
+    private void askOrder(int i) {
+        if (callsLeft() > 0) {
+            check("order(" + i + ")", desk.order(i), model.order(i));
         }
     }
 
@@ -201,6 +247,9 @@ public final class ModelTest {
     }
 
     private void wildCall(int a, int b, int c) {
+        if (callsLeft() < 15) {
+            return;
+        }
         String with = "(" + a + ", " + b + ", " + c + ")";
         check("fault" + with, desk.fault(a), model.fault(a));
         check("symbol" + with, desk.symbol(a, b), model.symbol(a, b));
@@ -223,15 +272,9 @@ public final class ModelTest {
         }
     }
 
-    private void about() {
-        for (int what = -1; what < 6; what++) {
-            same("about(" + what + ")", desk.about(what), model.about(what));
-        }
-    }
-
     private void faults(int[] counts) {
-        for (int what = -1; what < 3; what++) {
-            same("fault(" + what + ")", desk.fault(what), model.fault(what));
+        for (int what = -1; what < 3 && callsLeft() > 0; what++) {
+            check("fault(" + what + ")", desk.fault(what), model.fault(what));
         }
         counts[model.fault(0)]++;
     }
@@ -239,29 +282,30 @@ public final class ModelTest {
     private int check(String call, int got, int want) {
         callCount++;
         calls.append(call).append('\n');
-        same(call, got, want);
+        if ((got != want || callCount > CALLS) && !isWrong) {
+            isWrong = true;
+            wrong++;
+            System.out.println("run " + run + ": call " + callCount + ", " + call + ", answered " + got + ", the model "
+                + want + "\n" + calls);
+        }
         return want;
     }
 
-    private void same(String call, int got, int want) {
-        if (got != want && !isWrong) {
-            isWrong = true;
-            wrong++;
-            System.out.println("run " + run + ": " + call + " answered " + got + ", the model " + want + "\n" + calls);
+    /** Whether there were calls left for it, and for one more. */
+    private boolean put(String text) {
+        if (callsLeft() < (text.length() + 19) / 20 + 3) {
+            return false;
         }
-    }
-
-    private void put(String text) {
-        desk.end(0);
-        model.end(0);
+        check("end(0)", desk.end(0), model.end(0));
         for (int i = 0; i < text.length(); i += 20) {
             int[] words = new int[5];
             for (int k = 0; k < 5; k++) {
                 words[k] = Tape.word(text, i + 4 * k);
             }
-            same("feed", desk.feed(words[0], words[1], words[2], words[3], words[4]), model.feed(words));
+            check("feed", desk.feed(words[0], words[1], words[2], words[3], words[4]), model.feed(words));
         }
         check("text " + text.replace("\n", "\\n"), desk.end(text.length()), model.end(text.length()));
+        return true;
     }
 
     private boolean chance(int percent) {
